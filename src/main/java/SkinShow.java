@@ -23,8 +23,8 @@ public final class SkinShow {
     private final Grounds grounds = new Grounds();
     private final Tape tape = new Tape();
     private final Texts texts = new Texts();
-    private final Eye eye = new Eye(grounds, texts);
-    private final Search search = new Search(trial, eye, texts);
+    private final Eye eye = new Eye();
+    private final Search search = new Search();
     private final Lessons lessons = new Lessons();
     private final int[] waiting = new int[MOST_WAITING];
     private int waits = 0;
@@ -61,7 +61,7 @@ public final class SkinShow {
             case 5: return now.size[part];
             case 6: return now.aimOf(part);
             case 7: return now.paceOf(part);
-            case 8: return now.lends(part);
+            case 8: return now.givenBy(part);
             default: return BAD;
         }
     }
@@ -305,16 +305,15 @@ public final class SkinShow {
         if (!isGround(ground) || !within(place, 0, PLACES - 1)) {
             return BAD;
         }
-        eye.faceGround(ground);
-        eye.look(now);
-        return eye.spot(now, place, texts.counting(EYE, now)) ? 1 : 0;
+        lookAt(now, ground);
+        return eye.sees(place, texts, texts.counting(EYE, now)) ? 1 : 0;
     }
 
     public int beast(int ground, int what) {
         if (!isGround(ground) || !within(what, 0, 4)) {
             return BAD;
         }
-        int all = eye.spotAll(now, ground);
+        int all = spotAll(now, ground);
         eye.gather();
         switch (what) {
             case 0: return all;
@@ -329,7 +328,8 @@ public final class SkinShow {
         if (!isGround(ground) || !search.choose(groups) || !within(what, 0, 1)) {
             return BAD;
         }
-        search.run(now, ground, true);
+        search.begin(now, grounds, ground);
+        search.seek(texts, texts.counting(EYE, now));
         return what == 0 ? search.least : search.pulls;
     }
 
@@ -337,7 +337,8 @@ public final class SkinShow {
         if (!isGround(ground) || !search.choose(groups) || !within(what, 0, 1)) {
             return BAD;
         }
-        search.run(now, ground, false);
+        search.begin(now, grounds, ground);
+        search.match();
         return what == 0 ? search.least : search.pulls;
     }
 
@@ -450,7 +451,7 @@ public final class SkinShow {
             if (right == due && right < told && waiting[right] == trial.allSizes()) {
                 right++;
             }
-            if (right == due + 1 && right < told && waiting[right] == eye.spotAll(trial, 0)) {
+            if (right == due + 1 && right < told && waiting[right] == spotAll(trial, 0)) {
                 right++;
             }
         }
@@ -488,6 +489,18 @@ public final class SkinShow {
     }
 
     // ---- what several of them use.
+
+    private void lookAt(State skin, int ground) {
+        eye.face(grounds, ground);
+        eye.look(skin);
+        eye.findMoves(skin);
+        eye.findEdges(skin.rules[EDGE]);
+    }
+
+    private int spotAll(State skin, int ground) {
+        lookAt(skin, ground);
+        return eye.spotAll(texts, texts.counting(EYE, skin));
+    }
 
     private static boolean within(int v, int least, int most) {
         return v >= least && v <= most;
@@ -607,8 +620,7 @@ public final class SkinShow {
             }
         }
 
-        /** What a PART GIVES. */
-        private int lends(int part) {
+        private int givenBy(int part) {
             switch (kind[part]) {
                 case BAG: return -a[part] * size[part];
                 case MIRROR: return 2 * size[part];
@@ -625,8 +637,8 @@ public final class SkinShow {
 
         private int lightAt(int at) {
             int rise = heightAt(at) - (at < WIDTH ? 0 : heightAt(at - WIDTH));
-            int lent = partAt[at] == NONE ? 0 : lends(partAt[at]);
-            return held(rules[TONE] + lent + rules[ABOVE] * rise, MOST_LIGHT);
+            int given = partAt[at] == NONE ? 0 : givenBy(partAt[at]);
+            return held(rules[TONE] + given + rules[ABOVE] * rise, MOST_LIGHT);
         }
 
         private void markWas() {
@@ -1056,22 +1068,18 @@ public final class SkinShow {
 
     /** The eye: it faces a GROUND, looks at a skin, and spots PLACES. */
     private static final class Eye {
-        private final Grounds grounds;
-        private final Texts texts;
         private final int[] shades = new int[PLACES];
         private final int[] lights = new int[PLACES];
+        private final int[] edges = new int[PLACES];
+        // stay 0 in an eye that looks at skins at rest alone
+        private final int[] moves = new int[PLACES];
         private final boolean[] spots = new boolean[PLACES];
         private final int[] hanging = new int[PLACES];
         private int beasts = 0;
         private int most = 0;
         private int first = NONE;
 
-        private Eye(Grounds grounds, Texts texts) {
-            this.grounds = grounds;
-            this.texts = texts;
-        }
-
-        private void faceGround(int ground) {
+        private void face(Grounds grounds, int ground) {
             for (int place = 0; place < PLACES; place++) {
                 shades[place] = grounds.shadeAt(ground, place);
             }
@@ -1083,41 +1091,60 @@ public final class SkinShow {
             }
         }
 
-        /** How many PLACES beside one are lighter or darker than it by an edge or more. */
-        private int edgesAt(int place, int edge) {
-            int many = 0;
-            for (int side = 0; side < 4; side++) {
-                int other = beside(place, side);
-                many += other != NONE && Math.abs(lights[place] - lights[other]) >= edge ? 1 : 0;
+        private void findMoves(State skin) {
+            for (int place = 0; place < PLACES; place++) {
+                moves[place] = Math.abs(lights[place] - skin.was[place]);
             }
-            return many;
         }
 
-        /** Whether a TEXT (NONE: the eye that has none) sees a PLACE that moves by so much, with so many edges. */
-        private boolean judges(int text, int place, int moves, int edges) {
+        private void findEdges(int edge) {
+            for (int place = 0; place < PLACES; place++) {
+                edges[place] = 0;
+            }
+            for (int place = 0; place < PLACES; place++) {
+                if (place % WIDTH != WIDTH - 1) {
+                    markEdge(place, place + 1, edge);
+                }
+                if (place < PLACES - WIDTH) {
+                    markEdge(place, place + WIDTH, edge);
+                }
+            }
+        }
+
+        private void markEdge(int one, int other, int edge) {
+            if (Math.abs(lights[one] - lights[other]) >= edge) {
+                edges[one]++;
+                edges[other]++;
+            }
+        }
+
+        /** Whether a PLACE is SEEN by a TEXT, or, if that is NONE, by an eye without one. */
+        private boolean sees(int place, Texts texts, int text) {
             int differs = Math.abs(lights[place] - shades[place]);
-            return text == NONE ? differs > 9 : texts.worth(text, differs, shades[place], moves, edges) != 0;
+            if (text == NONE) {
+                return differs > 9;
+            }
+            return texts.worth(text, differs, shades[place], moves[place], edges[place]) != 0;
         }
 
-        private boolean spot(State skin, int place, int text) {
-            int moves = Math.abs(lights[place] - skin.was[place]);
-            return judges(text, place, moves, edgesAt(place, skin.rules[EDGE]));
-        }
-
-        /** Spots all PLACES of a skin that are SEEN on a GROUND: how many. */
-        private int spotAll(State skin, int ground) {
-            faceGround(ground);
-            look(skin);
-            int text = texts.counting(EYE, skin);
+        private int spotAll(Texts texts, int text) {
             int all = 0;
             for (int place = 0; place < PLACES; place++) {
-                spots[place] = spot(skin, place, text);
+                spots[place] = sees(place, texts, text);
                 all += spots[place] ? 1 : 0;
             }
             return all;
         }
 
-        /** Takes the spots for BEASTS; it rubs them out. */
+        private int allDiffering() {
+            int sum = 0;
+            for (int place = 0; place < PLACES; place++) {
+                sum += Math.abs(lights[place] - shades[place]);
+            }
+            return sum;
+        }
+
+        /** Takes the spots for BEASTS, and rubs them out. */
         private void gather() {
             beasts = 0;
             most = 0;
@@ -1132,7 +1159,7 @@ public final class SkinShow {
             }
         }
 
-        /** How many spots hang together with one; they are rubbed out. */
+        /** How many spots hang together with one; a spot is rubbed out where it is met, so none is met twice. */
         private int follow(int place) {
             hanging[0] = place;
             spots[place] = false;
@@ -1150,27 +1177,22 @@ public final class SkinShow {
         }
     }
 
-    /** Tries all PULLS of some GROUPS for HIDING and MISSES. */
+    /** Tries all PULLS of some GROUPS for HIDING and MISSES, on a skin and with an eye of its own. */
     private static final class Search {
-        private static final int MOST_CHOSEN = 3, EDGES = 5;
+        private static final int MOST_CHOSEN = 3, PULLS = MOST_PULL + 1, LIGHTS = MOST_LIGHT + 1, EDGES = 5;
+        // above all that can be found: 48 PLACES that miss by 99 each
+        private static final int NOTHING_FOUND = PLACES * LIGHTS;
 
-        private final State trial;
-        private final Eye eye;
-        private final Texts texts;
+        private final State skin = new State();
+        private final Eye eye = new Eye();
         private final int[] chosen = new int[MOST_CHOSEN];
         private int many = 0;
-        private final boolean[][] idle = new boolean[MOST_CHOSEN][MOST_PULL + 1];
-        // what was found of a PLACE with a LIGHT and edges: the round, and whether it is SEEN
-        private final int[] found = new int[PLACES * (MOST_LIGHT + 1) * EDGES];
-        private int round = 0;
+        private final boolean[] idle = new boolean[MOST_CHOSEN * PULLS];
+        // of each PLACE with a LIGHT and edges: twice the number of the search in which it was judged, and 1 if SEEN
+        private final int[] judged = new int[PLACES * LIGHTS * EDGES];
+        private int searches = 0;
         private int least = 0;
         private int pulls = 0;
-
-        private Search(State trial, Eye eye, Texts texts) {
-            this.trial = trial;
-            this.eye = eye;
-            this.texts = texts;
-        }
 
         /** Takes GROUPS as they are told; false, if they are not told so. */
         private boolean choose(int groups) {
@@ -1194,23 +1216,41 @@ public final class SkinShow {
             return true;
         }
 
-        /** Finds the least, and the first PULLS that lead to it. */
-        private void run(State now, int ground, boolean hiding) {
-            trial.becomes(now);
-            eye.faceGround(ground);
+        private void begin(State now, Grounds grounds, int ground) {
+            skin.becomes(now);
+            eye.face(grounds, ground);
             findIdle();
-            round++;
-            int text = texts.counting(EYE, now);
-            int all = many == 3 ? 1000 : many == 2 ? 100 : 10;
-            least = Integer.MAX_VALUE;
+            searches++;
+            least = NOTHING_FOUND;
+            pulls = 0;
+        }
+
+        private int allTries() {
+            return many == 3 ? PULLS * PULLS * PULLS : many == 2 ? PULLS * PULLS : PULLS;
+        }
+
+        private void seek(Texts texts, int text) {
+            int all = allTries();
             for (int tried = 0; tried < all && least > 0; tried++) {
-                if (tries(tried)) {
-                    trial.settle();
-                    eye.look(trial);
-                    int got = hiding ? allSeen(text) : allMissed();
-                    pulls = got < least ? tried : pulls;
-                    least = Math.min(least, got);
+                if (puts(tried)) {
+                    weigh(tried, allSeen(texts, text));
                 }
+            }
+        }
+
+        private void match() {
+            int all = allTries();
+            for (int tried = 0; tried < all && least > 0; tried++) {
+                if (puts(tried)) {
+                    weigh(tried, eye.allDiffering());
+                }
+            }
+        }
+
+        private void weigh(int tried, int got) {
+            if (got < least) {
+                least = got;
+                pulls = tried;
             }
         }
 
@@ -1218,53 +1258,47 @@ public final class SkinShow {
         private void findIdle() {
             for (int i = 0; i < many; i++) {
                 int group = chosen[i];
-                for (int pull = 1; pull <= MOST_PULL; pull++) {
-                    trial.pull[group] = pull - 1;
-                    trial.settle();
-                    trial.pull[group] = pull;
-                    idle[i][pull] = trial.settle() == 0;
+                for (int pull = 1; pull < PULLS; pull++) {
+                    skin.pull[group] = pull - 1;
+                    skin.settle();
+                    skin.pull[group] = pull;
+                    idle[i * PULLS + pull] = skin.settle() == 0;
                 }
             }
         }
 
-        /** Puts on PULLS; false, if one of them is idle. */
-        private boolean tries(int digits) {
+        /** Puts on the PULLS that are told as digits, and looks; false, if one of them is idle. */
+        private boolean puts(int digits) {
             int left = digits;
             for (int i = many - 1; i >= 0; i--) {
-                int pull = left % 10;
-                if (idle[i][pull]) {
+                int pull = left % PULLS;
+                if (idle[i * PULLS + pull]) {
                     return false;
                 }
-                trial.pull[chosen[i]] = pull;
-                left /= 10;
+                skin.pull[chosen[i]] = pull;
+                left /= PULLS;
             }
+            skin.settle();
+            eye.look(skin);
             return true;
         }
 
-        private int allMissed() {
-            int sum = 0;
-            for (int place = 0; place < PLACES; place++) {
-                sum += Math.abs(eye.lights[place] - eye.shades[place]);
-            }
-            return sum;
-        }
-
-        private int allSeen(int text) {
+        private int allSeen(Texts texts, int text) {
+            eye.findEdges(skin.rules[EDGE]);
             int all = 0;
             for (int place = 0; place < PLACES; place++) {
-                all += seenOnce(text, place);
+                all += seenOnce(place, texts, text);
             }
             return all;
         }
 
         /** 1 if a PLACE is SEEN; many PULLS lead to the same LIGHT, for which the TEXT is worked out once. */
-        private int seenOnce(int text, int place) {
-            int edges = eye.edgesAt(place, trial.rules[EDGE]);
-            int at = (place * (MOST_LIGHT + 1) + eye.lights[place]) * EDGES + edges;
-            if (found[at] / 2 != round) {
-                found[at] = 2 * round + (eye.judges(text, place, 0, edges) ? 1 : 0);
+        private int seenOnce(int place, Texts texts, int text) {
+            int at = (place * LIGHTS + eye.lights[place]) * EDGES + eye.edges[place];
+            if (judged[at] / 2 != searches) {
+                judged[at] = 2 * searches + (eye.sees(place, texts, text) ? 1 : 0);
             }
-            return found[at] % 2;
+            return judged[at] % 2;
         }
     }
 
