@@ -4,6 +4,7 @@ public final class SkinShow {
         NOTHING = -1000000011, KIND = -1000000012, INDEX = -1000000013, SIZE = -1000000014;
 
     private static final int PLACES = 48, WIDTH = 8, NERVES = 10, GROUPS = 6, EYE = 6, GROUNDS = 4;
+    private static final int LEFT = 0, RIGHT = 1, UP = 2, DOWN = 3, SIDES = 4;
     private static final int MOST_LIGHT = 99, MOST_PULL = 9, MOST_TICK = 9999;
     private static final int PART = 0, BAG = 1, MIRROR = 2, WHITE = 3, BUMP = 4, DEAD = 5;
     private static final int[] KIND_ABOVE = {NONE, PART, PART, MIRROR, PART, PART};
@@ -216,7 +217,7 @@ public final class SkinShow {
         if (!isGround(ground) || !within(question, 0, QUESTIONS - 1)) {
             return BAD;
         }
-        return grounds.answer(ground, question, now.rules[EDGE]);
+        return grounds.askAll(ground, now.rules[EDGE])[question];
     }
 
     // ---- texts.
@@ -283,16 +284,12 @@ public final class SkinShow {
         if (!isGround(ground)) {
             return BAD;
         }
-        int edge = now.rules[EDGE];
-        int light = grounds.answer(ground, 0, edge);
-        int rough = grounds.answer(ground, 1, edge);
-        int edges = grounds.answer(ground, 2, edge);
-        int bright = grounds.answer(ground, 3, edge);
+        int[] asked = grounds.askAll(ground, now.rules[EDGE]);
         int changed = 0;
         for (int group = 0; group < GROUPS; group++) {
             int text = texts.counting(group, now);
             if (text != NONE) {
-                int pull = held(texts.worth(text, light, rough, edges, bright), MOST_PULL);
+                int pull = held(texts.worth(text, asked[0], asked[1], asked[2], asked[3]), MOST_PULL);
                 changed += replaced(now.pull, group, pull) == pull ? 0 : 1;
             }
         }
@@ -346,7 +343,7 @@ public final class SkinShow {
         if (!isGround(ground) || !within(group, 0, GROUPS - 1)) {
             return BAD;
         }
-        int mean = grounds.answer(ground, 0, now.rules[EDGE]);
+        int mean = grounds.askAll(ground, now.rules[EDGE])[0];
         int more = 0;
         for (int part = 0; part < now.parts; part++) {
             if (now.group[now.nerve[part]] == group) {
@@ -366,9 +363,7 @@ public final class SkinShow {
             return FULL;
         }
         lessons.answers[now.learnt] = answer;
-        for (int question = 0; question < QUESTIONS; question++) {
-            lessons.asked[now.learnt][question] = grounds.answer(ground, question, now.rules[EDGE]);
-        }
+        System.arraycopy(grounds.askAll(ground, now.rules[EDGE]), 0, lessons.asked[now.learnt], 0, QUESTIONS);
         return now.learnt++;
     }
 
@@ -520,13 +515,13 @@ public final class SkinShow {
         return before;
     }
 
-    /** The PLACE beside a PLACE to the left (0), right (1), above (2), below (3); NONE beyond the rim. */
+    /** The PLACE beside a PLACE; NONE beyond the rim. */
     private static int beside(int place, int side) {
         int x = place % WIDTH;
         switch (side) {
-            case 0: return x > 0 ? place - 1 : NONE;
-            case 1: return x < WIDTH - 1 ? place + 1 : NONE;
-            case 2: return place >= WIDTH ? place - WIDTH : NONE;
+            case LEFT: return x > 0 ? place - 1 : NONE;
+            case RIGHT: return x < WIDTH - 1 ? place + 1 : NONE;
+            case UP: return place >= WIDTH ? place - WIDTH : NONE;
             default: return place < PLACES - WIDTH ? place + WIDTH : NONE;
         }
     }
@@ -588,7 +583,6 @@ public final class SkinShow {
             a[parts] = itsA;
             span[parts] = itsSpan;
             nerve[parts] = itsNerve;
-            // an image that came back may leave the size of a part that is no more
             size[parts] = 0;
             partAt[itsPlace] = parts;
             return parts++;
@@ -703,6 +697,7 @@ public final class SkinShow {
         private final int[] length = new int[LINES];
         private final int[][] numbers = new int[LINES][MOST_LINE];
         private final int[] shades = new int[PLACES];
+        private final int[] answers = new int[QUESTIONS];
 
         private Grounds() {
             for (int line = 0; line < LINES; line++) {
@@ -740,17 +735,16 @@ public final class SkinShow {
             return held(numbers[line][x], MOST_LIGHT);
         }
 
-        /** What a QUESTION of a GROUND is answered. */
-        private int answer(int ground, int question, int edge) {
+        /** The answers to all QUESTIONS of a GROUND, in a row that the next asking uses again. */
+        private int[] askAll(int ground, int edge) {
             for (int place = 0; place < PLACES; place++) {
                 shades[place] = shadeAt(ground, place);
             }
-            switch (question) {
-                case 0: return mean();
-                case 1: return overTwos(NONE) / TWOS;
-                case 2: return overTwos(edge);
-                default: return brightOnes(edge);
-            }
+            answers[0] = mean();
+            answers[1] = allDifferences() / TWOS;
+            answers[2] = allEdges(edge);
+            answers[3] = brightOnes(edge);
+            return answers;
         }
 
         private int mean() {
@@ -761,25 +755,34 @@ public final class SkinShow {
             return sum / PLACES;
         }
 
-        /** The differences of all twos together, or with an edge, how many reach it. */
-        private int overTwos(int edge) {
+        private int difference(int place, int side) {
+            int other = beside(place, side);
+            return other == NONE ? 0 : Math.abs(shades[place] - shades[other]);
+        }
+
+        private int allDifferences() {
             int sum = 0;
             for (int place = 0; place < PLACES; place++) {
                 // to the right and below alone: so each two is met once
-                for (int side = 1; side <= 3; side += 2) {
-                    int other = beside(place, side);
-                    int size = other == NONE ? 0 : Math.abs(shades[place] - shades[other]);
-                    sum += edge == NONE ? size : size >= edge ? 1 : 0;
-                }
+                sum += difference(place, RIGHT) + difference(place, DOWN);
             }
             return sum;
+        }
+
+        private int allEdges(int edge) {
+            int many = 0;
+            for (int place = 0; place < PLACES; place++) {
+                many += difference(place, RIGHT) >= edge ? 1 : 0;
+                many += difference(place, DOWN) >= edge ? 1 : 0;
+            }
+            return many;
         }
 
         private int brightOnes(int edge) {
             int many = 0;
             for (int place = 0; place < PLACES; place++) {
                 boolean bright = true;
-                for (int side = 0; side < 4; side++) {
+                for (int side = LEFT; side < SIDES; side++) {
                     int other = beside(place, side);
                     bright = bright && (other == NONE || shades[place] - shades[other] >= edge);
                 }
@@ -1165,7 +1168,7 @@ public final class SkinShow {
             spots[place] = false;
             int many = 1;
             for (int at = 0; at < many && at < PLACES; at++) {
-                for (int side = 0; side < 4; side++) {
+                for (int side = LEFT; side < SIDES; side++) {
                     int other = beside(hanging[at], side);
                     if (other != NONE && spots[other]) {
                         spots[other] = false;

@@ -36,6 +36,9 @@ public final class EyesTest {
             due.is(26, "a difference above 9 at " + place, s.seen(1, place), seen[place]);
             due.is(26, "on another GROUND", s.seen(0, place), 0);
         }
+        Due.line(s, 11, 0, 0, 0, 0, 0, 0, 0, 0);
+        due.is(26, "the last PLACE", s.seen(1, 47), 1);
+        due.is(26, "above the last PLACE", s.seen(1, 39), 0);
         Due.text(s, 1, "eye 1");
         due.is(26, "a TEXT not in force", s.seen(1, 0), 0);
         s.tick(1);
@@ -110,6 +113,13 @@ public final class EyesTest {
         due.is(26, "just below EDGE", less.seen(0, 9), 0);
         less.rule(2, 20);
         due.is(26, "just EDGE", less.seen(0, 9), 1);
+        less.part(WHITE, 0, 2, 9, 0);
+        less.rest();
+        due.is(26, "edges at the first PLACE", less.seen(0, 0), 1);
+        less.rule(2, 99);
+        for (int p = 0; p < 48; p++) {
+            due.is(26, "no edges of before at " + p, less.seen(0, p), 0);
+        }
     }
 
     private static void beast() {
@@ -139,6 +149,9 @@ public final class EyesTest {
         s.put(9, 4, 0);
         due.is(27, "now the lower one is greater", s.beast(1, 2), 20);
         due.is(27, "by one", s.beast(1, 1), 4);
+        for (int what = 0; what < 5; what++) {
+            due.is(27, "nothing SEEN behind it, " + what, s.beast(3, what), none[what]);
+        }
     }
 
     private static void beastsHang() {
@@ -235,6 +248,9 @@ public final class EyesTest {
         due.is(28, "three GROUPS", s.hide(0, 345, 1), 200);
         due.is(28, "three GROUPS", s.hide(0, 435, 1), 20);
         due.is(28, "all three", s.hide(0, 403, 1), 82);
+        s.nerve(1, 0, 1);
+        due.is(28, "the least two GROUPS", s.hide(0, 10, 1), 28);
+        due.is(28, "the least two GROUPS, seen", s.hide(0, 10, 0), 0);
     }
 
     private static void hideIsAtRest() {
@@ -282,6 +298,11 @@ public final class EyesTest {
         due.is(29, "others as they are: LIGHT 0", s.misses(0, 1, 0), 12);
         due.is(29, "on a GROUND that is met", s.misses(1, 0, 0), 0);
         due.is(29, "at once", s.misses(1, 0, 1), 0);
+        SkinShow near = new SkinShow();
+        near.part(BAG, 0, 1, 9, 0);
+        Due.line(near, 0, 47);
+        due.is(29, "by 3, 2, 1, 0", near.misses(0, 0, 0), 0);
+        due.is(29, "just met", near.misses(0, 0, 1), 3);
         Due.shade(s, 2, 99);
         s.rule(0, 0);
         due.is(29, "the most there can be", s.misses(2, 0, 0), 48 * 99);

@@ -33,6 +33,9 @@ public final class GroundsTest {
         due.is(14, "no place", s.put(0, 0, 1), INDEX);
         due.is(14, "anew", s.line(23, 1, 24), 24);
         due.is(14, "all 0 again", s.put(23, 23, 5), 0);
+        s.put(23, 0, 6);
+        s.line(23, 1, 24);
+        due.is(14, "the first, too", s.put(23, 0, 6), 0);
         due.is(14, "MISSING, n any", s.line(23, -1, 25), 0);
         due.is(14, "MISSING, n below 0", s.line(23, -1, -7), 0);
         due.is(14, "one is left", s.count(10), 1);
@@ -93,6 +96,11 @@ public final class GroundsTest {
         due.is(16, "those copied stay", s.put(0, 2, 0), 3);
         s.line(4, 1, 4);
         s.put(2, 3, 100000);
+        Due.line(s, 23, 8);
+        due.is(16, "from the last LINE", s.copy(23, 0, 0, 0, 1), 1);
+        due.is(16, "to the last LINE", s.copy(0, 1, 23, 0, 1), 1);
+        due.is(16, "what came from it", s.put(0, 0, 0), 8);
+        due.is(16, "what came to it", s.put(23, 0, 0), 2);
         due.is(16, "ints", s.copy(2, 3, 4, 0, 1), 1);
         due.is(16, "as they were", s.put(4, 0, 0), 100000);
     }
@@ -209,8 +217,16 @@ public final class GroundsTest {
         due.is(18, "three corners more", s.ask(0, 3), 4);
         s.put(4, 0, 99);
         due.is(18, "one less", s.ask(0, 3), 3);
-        s.rule(2, 20);
         s.line(1, -1, 0);
         due.is(18, "a LINE less", s.ask(0, 3), 3);
+        Due.shade(s, 1, 50);
+        s.put(7, 0, 80);
+        due.is(18, "at the left rim", s.ask(1, 3), 1);
+        s.put(6, 0, 70);
+        due.is(18, "the corner above is nearly as bright", s.ask(1, 3), 0);
+        s.put(6, 0, 50);
+        s.put(7, 7, 80);
+        s.put(8, 0, 70);
+        due.is(18, "at the right rim", s.ask(1, 3), 1);
     }
 }

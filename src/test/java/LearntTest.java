@@ -10,6 +10,8 @@ public final class LearntTest {
         eachQuestion();
         fewest();
         fewestOfTwo();
+        fewestOfOneBehindTwo();
+        fewestOfFour();
         watch();
         alike();
         kinds();
@@ -138,6 +140,46 @@ public final class LearntTest {
         due.is(33, "light and bright ones do, too", s.apart(9), 1);
     }
 
+    private static void learnShade(SkinShow s, int shade, int answer, int... first) {
+        Due.shade(s, 0, shade);
+        Due.line(s, 0, first);
+        s.learn(0, answer);
+    }
+
+    private static void fewestOfOneBehindTwo() {
+        SkinShow s = new SkinShow();
+        learnShade(s, 50, 1);
+        // lighter and with edges, as rough; then rough and with edges, as light
+        learnShade(s, 51, 2, 71, 51, 51, 51, 51, 51, 51, 51);
+        learnShade(s, 50, 3, 70, 30, 70, 30, 70, 30, 70, 30);
+        due.is(33, "light does not", s.apart(1), 0);
+        due.is(33, "rough does not", s.apart(2), 0);
+        due.is(33, "both do", s.apart(3), 1);
+        due.is(33, "but edges do alone", s.fewest(), 4);
+    }
+
+    private static void fewestOfFour() {
+        SkinShow s = new SkinShow();
+        learnShade(s, 50, 1);
+        learnShade(s, 51, 2, 51, 51, 51, 51, 51, 51, 51, 51);
+        due.is(33, "light", s.fewest(), 1);
+        learnShade(s, 50, 3, 55, 45, 55, 45, 55, 45, 55, 45);
+        due.is(33, "light and rough", s.fewest(), 3);
+        learnShade(s, 50, 4, 60, 40);
+        due.is(33, "and edges", s.fewest(), 7);
+        // two edges each, as light, a dark corner and a bright one
+        Due.shade(s, 0, 51);
+        Due.line(s, 0, 20);
+        s.line(5, -1, 0);
+        s.learn(0, 5);
+        due.is(33, "still those three", s.fewest(), 7);
+        learnShade(s, 50, 6, 80);
+        due.is(33, "all four", s.fewest(), 15);
+        due.is(32, "three of them do not", s.apart(7), 0);
+        learnShade(s, 50, 7, 80);
+        due.is(33, "none", s.fewest(), NONE);
+    }
+
     private static void watch() {
         SkinShow s = new SkinShow();
         due.is(34, "set -1", s.watch(-1), BAD);
@@ -152,6 +194,13 @@ public final class LearntTest {
         due.is(34, "the thirteenth", s.watch(0), FULL);
         due.is(34, "BAD ahead of FULL", s.watch(-1), BAD);
         due.is(42, "twelve", s.count(9), 12);
+        due.is(35, "with twelve rows", s.alike(27, 28), 1);
+        due.is(36, "of no PARTS", s.kinds(-1), 0);
+        due.is(36, "without the last row", s.kinds(11), 0);
+        due.is(36, "row 12", s.kinds(12), BAD);
+        due.is(37, "of twelve", s.parts(), 0);
+        s.part(0, 0, 0, 0, 0);
+        due.is(36, "of one", s.kinds(-1), 1);
     }
 
     private static void alike() {
@@ -164,6 +213,7 @@ public final class LearntTest {
         due.is(35, "no rows", s.alike(0, 28), 1);
         s.watch(1 << 28 | 5);
         due.is(35, "both in", s.alike(0, 28), 1);
+        due.is(35, "told the other way", s.alike(28, 0), 1);
         due.is(35, "both not in", s.alike(1, 27), 1);
         due.is(35, "one in", s.alike(27, 28), 0);
         s.watch(1);
@@ -210,6 +260,19 @@ public final class LearntTest {
         due.is(36, "without the lowest", s.kinds(0), 15);
         due.is(36, "without the highest", s.kinds(4), 16);
         due.is(37, "the lowest parts most", s.parts(), 0);
+        SkinShow twice = new SkinShow();
+        for (int place = 0; place < 29; place++) {
+            twice.part(0, place, 0, 0, 0);
+        }
+        for (int row = 0; row < 10; row++) {
+            int set = 0;
+            for (int part = 0; part < 29; part++) {
+                set |= (part >> row / 2 & 1) << part;
+            }
+            twice.watch(set);
+        }
+        due.is(36, "29 kinds without any one", twice.kinds(9), 29);
+        due.is(37, "so the least", twice.parts(), 0);
     }
 
     private static void parts() {

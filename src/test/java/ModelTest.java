@@ -172,15 +172,31 @@ public final class ModelTest {
         else call("rule", what, what == 1 ? num(0, 9) : what == 2 ? num(1, 40) : num(1, 48));
     }
 
+    /** A line that is not missing, where there is one. */
+    int lineThere() {
+        int line = random.nextInt(24);
+        for (int i = 0; i < 24 && model.lines[line] == null; i++) line = (line + 1) % 24;
+        return line;
+    }
+
+    void copying(int line) {
+        int to = chance(4) ? line : chance(8) ? num(0, 23) : lineThere();
+        for (int i = 0; i < 9 && line >= 0 && line < 24 && to >= 0 && to < 24 && model.bytes[line] != model.bytes[to]; i++) {
+            to = lineThere();
+        }
+        boolean far = chance(8);
+        call("copy", line, num(0, far ? 24 : 4), to, num(0, far ? 24 : 4), far ? chance(3) ? wild() : num(0, 24) : num(0, 4));
+    }
+
     void grounds() {
-        int line = num(0, chance(2) ? 5 : 23);
+        int line = chance(12) ? num(0, 23) : lineThere();
         switch (random.nextInt(8)) {
             case 0: call("line", line, num(-1, 1), chance(3) ? num(0, 24) : 8); break;
             case 1: case 2: case 3:
                 int v = chance(6) ? wild() : chance(3) ? num(0, 130) : 40 + random.nextInt(20);
                 call("put", line, num(0, 7), v);
                 break;
-            case 4: call("copy", line, num(0, 8), chance(4) ? line : num(0, 11), num(0, 8), chance(2) ? num(0, 3) : num(0, 24)); break;
+            case 4: copying(line); break;
             case 5: call("ground", num(0, 3), num(0, 47)); break;
             default: call("ask", num(0, 3), num(0, 3));
         }
@@ -198,7 +214,10 @@ public final class ModelTest {
                 call("gives", num(0, 6), v[0], v[1], v[2], v[3]);
                 break;
             case 6: call("habit", num(0, 3)); break;
-            case 7: if (chance(4)) call("feed", wild(), wild(), wild()); break;
+            case 7:
+                int many = chance(30) ? 9 : chance(4) ? 1 : 0;
+                for (int i = 0; i < many; i++) call("feed", wild(), wild(), wild());
+                break;
             default: if (chance(4)) call("trim", num(0, Math.max(1, model.tape.size())));
         }
     }
@@ -208,13 +227,16 @@ public final class ModelTest {
             case 0: case 1: call("seen", num(0, 3), num(0, 47)); break;
             case 2: case 3: case 4: call("beast", num(0, 3), num(0, 4)); break;
             case 5: call("half", num(0, 3), num(0, 5)); break;
-            default: if (chance(8)) search(); break;
+            default: if (chance(4)) search(); break;
         }
     }
 
     void search() {
-        int groups = chance(3) ? random.nextInt(1100) - 50 : chance(2) ? num(0, 5) : num(10, 54);
-        call(chance(2) ? "hide" : "misses", num(0, 3), groups, num(0, 1));
+        int groups = chance(12) ? num(0, 999) : random.nextInt(6);
+        // the model is slow where three are told
+        for (int more = random.nextInt(chance(4) ? 3 : 2); more > 0; more--) groups = groups * 10 + random.nextInt(6);
+        String name = chance(2) ? "hide" : "misses";
+        call(name, num(0, 3), groups, num(0, 1));
     }
 
     void learning() {
@@ -262,13 +284,21 @@ public final class ModelTest {
         call("check", chance(5) ? num(1, 30) : n);
     }
 
+    void fill(int line) {
+        if (chance(3)) return;
+        int sort = chance(4) ? 1 : 0;
+        call("line", line, sort, chance(4) ? num(0, 24) : 8);
+        for (int x = 0; x < 8 && chance(2); x++) call("put", line, x, 20 + random.nextInt(60));
+    }
+
     void run() {
         int[] weights = new int[6];
         for (int i = 0; i < 6; i++) weights[i] = 1 + random.nextInt(10);
         int busy = random.nextInt(3) == 0 ? 0 : 20 + random.nextInt(60);
         for (int i = 0; i < busy; i++) call("part", num(0, 5), num(0, 47), num(0, 9), num(0, 9), num(0, 9));
         for (int i = 0; i < 10 && busy > 0; i++) call("nerve", i, 0, num(0, 5));
-        if (chance(40)) for (int i = 0; i < 160; i++) call("tick", 60);
+        if (chance(2)) for (int line = 0; line < 24; line++) fill(line);
+        if (chance(40)) for (int i = 0; i < 166; i++) call("tick", 60);
         // what does not call does not count: an end is needed all the same
         for (int acts = 0; acts < 5000 && calls < CALLS; acts++) {
             int sum = 0;

@@ -82,6 +82,18 @@ public final class SkinTest {
         due.is(2, "no PLACE is left", s.part(PART, 5, 0, 0, 0), NO);
         due.is(2, "48 PARTS", s.count(0), 48);
         due.is(9, "the PART at PLACE 3", s.show(3, 2), 44);
+        due.is(42, "none of them is a BAG", s.count(BAG), 0);
+        due.is(12, "the way of 48", s.still(), 0);
+        due.is(13, "the change of 48", s.change(), 0);
+        due.is(10, "48 go on", s.tick(1), 1);
+        due.is(11, "48 rest", s.rest(), 0);
+        due.is(42, "48 SIZES", s.count(6), 0);
+        due.is(40, "48 are kept", s.keep(), 1);
+        due.is(39, "48 are told", s.check(1), 1);
+        due.is(41, "48 are back", s.back(), 1);
+        due.is(30, "48 lie elsewhere", s.half(0, 0), -48);
+        due.is(28, "48 hide", s.hide(0, 0, 0), 0);
+        due.is(36, "of 48 the first 29", s.kinds(-1), 1);
     }
 
     private static void told() {
@@ -260,6 +272,14 @@ public final class SkinTest {
         due.is(9, "beside it", s.show(4, 0), 50);
         due.is(9, "above it", s.show(39, 0), 50);
         due.is(9, "in the lowest row", s.show(47, 0), 50 + 3 + 5 * 3);
+        SkinShow first = new SkinShow();
+        first.part(BUMP, 0, 0, 8, 0);
+        first.pull(0, 9);
+        first.rest();
+        first.rule(1, 5);
+        due.is(9, "the first PLACE", first.show(0, 0), 50 + 4 + 5 * 4);
+        due.is(9, "below the first PLACE", first.show(8, 0), 50 - 5 * 4);
+        due.is(9, "the last of the upmost row", first.show(7, 0), 50);
         s.dies(0);
         due.is(9, "a dead BUMP has no HEIGHT", s.show(3, 3), 0);
         due.is(9, "nor does it GIVE", s.show(3, 0), 50);

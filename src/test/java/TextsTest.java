@@ -14,6 +14,7 @@ public final class TextsTest {
         faultsOfDepth();
         faultsAtTheEnd();
         goodOnes();
+        goodBehindFaults();
         of();
         why();
         whyOfSeveral();
@@ -111,6 +112,15 @@ public final class TextsTest {
         fault("eye", 3);
         fault("eye  ", 5);
         fault("eyed", 0);
+        fault("eyea d", 0);
+        fault("eyez d", 0);
+        fault("aeye d", 0);
+        fault("zeye d", 0);
+        fault("xye d", 0);
+        fault("eyx d", 0);
+        fault("xull 0 l", 0);
+        fault("pul 0 l", 0);
+        fault("pulll 0 l", 0);
         fault("eye7", 3);
         fault("pull", 4);
         fault("pull l", 5);
@@ -232,6 +242,25 @@ public final class TextsTest {
         due.is(24, "45 times", s.gives(0, 2, 0, 0, 0), 90);
     }
 
+    private static void goodBehindFaults() {
+        SkinShow s = new SkinShow();
+        String[] faulty = {"eye 1+(!(!(!", "eye (((((((((", "eye !!!!!!!!!", "pull 3 1*2<", "eye 5|6&7)", "eye 1 1"};
+        for (int i = 0; i < faulty.length; i++) {
+            due.is(21, "a FAULT in " + faulty[i], Due.text(s, 0, faulty[i]) < -100 ? 1 : 0, 1);
+            due.is(21, "a good one behind it", Due.text(s, 0, "eye (!(d))+1"), i);
+            due.is(22, "its group", s.of(i, 0), 6);
+            due.is(22, "its NUMBERS and NAMES", s.of(i, 2), 2);
+            due.is(24, "what it gives", s.gives(6, 0, 0, 0, 0), 2);
+        }
+        Due.text(s, 0, "eye !!!!!!!!((((((((d))))))))");
+        due.is(24, "eight of each", s.gives(6, 3, 0, 0, 0), 1);
+        s.keep();
+        Due.text(s, 0, "eye 1+2*3-4+5-6");
+        s.back();
+        Due.text(s, 0, "eye 1");
+        due.is(24, "a short one where a long one was", s.gives(6, 0, 0, 0, 0), 1);
+    }
+
     private static void of() {
         SkinShow s = new SkinShow();
         due.is(22, "no TEXT", s.of(0, 0), BAD);
@@ -335,6 +364,8 @@ public final class TextsTest {
         due.is(24, "=", worth("d=g", 200000, 200000, 0, 0), 1);
         due.is(24, "< of tests", worth("(d<g)<(m<c)", 2, 1, 1, 2), 1);
         due.is(24, "a number", worth("0042", 0, 0, 0, 0), 42);
+        due.is(24, "0 is a number", worth("0", 7, 7, 7, 7), 0);
+        due.is(24, "0 is a number", worth("3-0", 7, 7, 7, 7), 3);
     }
 
     private static void givesWraps() {
