@@ -303,6 +303,18 @@ public final class EyesTest {
         Due.line(near, 0, 47);
         due.is(29, "by 3, 2, 1, 0", near.misses(0, 0, 0), 0);
         due.is(29, "just met", near.misses(0, 0, 1), 3);
+        Due.line(near, 0, 49);
+        near.pull(0, 1);
+        near.rest();
+        due.is(29, "as it is", near.misses(0, 0, 1), 1);
+        SkinShow held = new SkinShow();
+        held.part(BAG, 0, 9, 3, 0);
+        Due.line(held, 0, 23);
+        due.is(29, "where the SPAN holds", held.misses(0, 0, 0), 0);
+        due.is(29, "the first that reaches it", held.misses(0, 0, 1), 3);
+        due.is(28, "the first that reaches it", held.hide(0, 0, 1), 2);
+        held.nerve(0, 1, 1);
+        due.is(29, "a weak nerve: 1 from 5 on", held.misses(0, 0, 1), 5);
         Due.shade(s, 2, 99);
         s.rule(0, 0);
         due.is(29, "the most there can be", s.misses(2, 0, 0), 48 * 99);

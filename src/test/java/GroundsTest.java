@@ -181,6 +181,8 @@ public final class GroundsTest {
         s.put(0, 0, 30);
         due.is(18, "darker ones, too", s.ask(0, 2), 2);
         s.put(0, 0, 50);
+        s.put(3, 7, 77);
+        due.is(18, "81 by 82", s.ask(0, 1), 0);
         s.put(3, 7, 80);
         due.is(18, "edges at the rim", s.ask(0, 2), 3);
         s.put(3, 6, 80);

@@ -259,6 +259,12 @@ public final class TextsTest {
         s.back();
         Due.text(s, 0, "eye 1");
         due.is(24, "a short one where a long one was", s.gives(6, 0, 0, 0, 0), 1);
+        s.back();
+        Due.text(s, 0, "eye !7");
+        due.is(24, "another one there", s.gives(6, 0, 0, 0, 0), 0);
+        s.back();
+        Due.text(s, 0, "eye 7");
+        due.is(24, "without its sign", s.gives(6, 0, 0, 0, 0), 7);
     }
 
     private static void of() {
