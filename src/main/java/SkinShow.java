@@ -554,7 +554,9 @@ public final class SkinShow {
             for (int at = 0; at < NERVES; at++) {
                 weight[at] = 5;
             }
-            System.arraycopy(RULE_AT_FIRST, 0, rules, 0, RULES);
+            for (int at = 0; at < RULES; at++) {
+                rules[at] = RULE_AT_FIRST[at];
+            }
         }
 
         private void becomes(State other) {
@@ -929,8 +931,21 @@ public final class SkinShow {
             } else {
                 return false;
             }
-            open[opened++] = bytes[start];
+            hold(bytes[start]);
             return nots <= MOST_OPEN && parens <= MOST_OPEN;
+        }
+
+        /** A sign stays open, till what it joins is put down. */
+        private void hold(int sign) {
+            if (opened < MOST_TAPE) {
+                open[opened++] = sign;
+            }
+        }
+
+        private void putDown(int word) {
+            if (size < MOST_TAPE) {
+                code[size++] = word;
+            }
         }
 
         private int number() {
@@ -942,7 +957,7 @@ public final class SkinShow {
         }
 
         private boolean putOperand(int operand) {
-            code[size++] = operand;
+            putDown(operand);
             operands++;
             endPiece();
             return true;
@@ -953,7 +968,7 @@ public final class SkinShow {
             while (opened > 0 && open[opened - 1] == '!') {
                 opened--;
                 nots--;
-                code[size++] = -'!';
+                putDown(-'!');
             }
         }
 
@@ -979,7 +994,7 @@ public final class SkinShow {
                 return false;
             }
             close(level);
-            open[opened++] = bytes[start];
+            hold(bytes[start]);
             wanting = true;
             return true;
         }
@@ -988,7 +1003,7 @@ public final class SkinShow {
         private void close(int level) {
             while (opened > 0 && levelOf(open[opened - 1]) >= level) {
                 opened--;
-                code[size++] = -open[opened];
+                putDown(-open[opened]);
             }
         }
 
@@ -1044,9 +1059,9 @@ public final class SkinShow {
                     stack[top++] = word;
                 } else if (word >= LAST_NAME) {
                     stack[top++] = word == -1 ? a : word == -2 ? b : word == -3 ? c : d;
-                } else if (word == -'!') {
+                } else if (word == -'!' && top > 0) {
                     stack[top - 1] = stack[top - 1] == 0 ? 1 : 0;
-                } else {
+                } else if (top > 1) {
                     top--;
                     stack[top - 1] = joined(-word, stack[top - 1], stack[top]);
                 }
@@ -1170,7 +1185,7 @@ public final class SkinShow {
             for (int at = 0; at < many && at < PLACES; at++) {
                 for (int side = LEFT; side < SIDES; side++) {
                     int other = beside(hanging[at], side);
-                    if (other != NONE && spots[other]) {
+                    if (other != NONE && spots[other] && many < PLACES) {
                         spots[other] = false;
                         hanging[many++] = other;
                     }
