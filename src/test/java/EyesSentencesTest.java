@@ -515,6 +515,22 @@ public final class EyesSentencesTest {
         it.is("the PULLS: the last is 0", s.hide(0, 21, 1), 50);
         it.is("the PULLS: the first and the last are 0", s.hide(0, 321, 1), 50);
         it.is("the PULLS of three", s.hide(0, 213, 1), 500);
+        // asked again by another TEXT, with other searches at another LIGHT between
+        for (int between = 0; between <= 8; between++) {
+            for (int first = 0; first <= 1; first++) {
+                SkinShow again = new SkinShow();
+                Due.text(again, 0, "eye " + first);
+                it.is("the first time", again.hide(0, 0, 0), 48 * first);
+                again.rule(TONE, 60);
+                for (int i = 0; i < between; i++) {
+                    it.is("between", again.hide(0, 0, 0), 48 * first);
+                }
+                again.rule(TONE, 50);
+                Due.text(again, 0, "eye " + (1 - first));
+                it.is("asked again behind " + between, again.hide(0, 0, 0), 48 - 48 * first);
+                it.is("and once more", again.hide(3, 0, 0), 48 - 48 * first);
+            }
+        }
         Twins.unchanged(it, "hiding", twin -> {
             twin.hide(0, 0, 0);
             twin.hide(1, 12, 1);

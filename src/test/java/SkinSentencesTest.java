@@ -869,6 +869,14 @@ public final class SkinSentencesTest {
         it.is("BAD stands ahead: 0", s.tick(0), BAD);
         it.is("BAD stands ahead: the greatest int", s.tick(Due.MOST), BAD);
         it.is("9999 stays", s.count(13), 9999);
+        Twins.unchanged(it, "TICKS by FULL", twin -> {
+            for (int i = 0; i < 166; i++) {
+                twin.tick(60);
+            }
+            twin.tick(30);
+            twin.pull(0, 0);
+            twin.rule(TONE, 77);
+        }, twin -> it.is("9993 and 7", twin.tick(7), FULL), twin -> { });
         SkinShow rim = late(9939);
         it.is("9939 and 60", rim.tick(60), 9999);
     }

@@ -661,6 +661,11 @@ public final class TextsSentencesTest {
         fault(it, " ", 1);
         fault(it, times(96, " "), 96);
         fault(it, "eye" + times(93, " "), 96);
+        fault(it, "pull" + times(92, " "), 96);
+        fault(it, "pull 3" + times(90, " "), 96);
+        fault(it, times(92, " ") + "pull", 96);
+        fault(it, times(92, " ") + "eye(", 96);
+        fault(it, times(93, " ") + "ey3", 93);
         fault(it, "eye 1" + times(91, "+"), 6);
         fault(it, "eye 1" + times(45, "+1") + "+", 96);
         good(it, "eye 11" + times(45, "+1"));
@@ -932,17 +937,28 @@ public final class TextsSentencesTest {
             s -> it.is("the end", s.text(0), -111), s -> s.trim(0));
         it.is("ahead of FULL", Due.text(fourteen(), 0, "eye"), -103);
         // what a TEXT at fault left open does not count for the next one
-        String[] faulty = {"eye ((((((((", "eye !!!!!!!!", "pull 3 1+2*(3|!(4<", "eye 5|6&7<8+9*", "eye 1 1", "eye (1", "pull 3"};
-        for (int i = 0; i < faulty.length; i++) {
-            SkinShow s = new SkinShow();
-            it.is("at fault: " + faulty[i], Due.text(s, 0, faulty[i]) <= -100 ? 1 : 0, 1);
-            it.is("the next one: not open", Due.text(s, 0, "eye d)"), -105);
-            it.is("the next one: eight ( and eight !", Due.text(s, 0, "eye ((((((((!!!!!!!!(1)))))))"), -120);
-            it.is("the next one", Due.text(s, 0, "eye !!!!!!!!((((((((d*2|g))))))))+c"), 0);
-            it.is("its GROUP", s.of(0, 0), EYE);
-            it.is("its NUMBERS and NAMES", s.of(0, 2), 4);
-            it.is("what it gives", s.gives(EYE, 3, 0, 0, 10), 11);
+        String[] faulty = {"eye ((((((((", "eye !!!!!!!!", "pull 3 1+2*(3|!(4<", "eye 5|6&7<8+9*", "eye 1 1", "eye (1", "pull 3",
+            "eye !!!", "eye 1+!(!(!", "eye 0-", "eye 2*!"};
+        for (String before : faulty) {
+            it.is("behind " + before + ": not open", behind(before, "eye d)", 0), -105);
+            it.is("behind " + before + ": too many (", behind(before, "eye ((((((((!!!!!!!!(1)))))))", 0), -120);
+            it.is("behind " + before + ": too many !", behind(before, "eye !!!!!!!!((((((((!1))))))))", 0), -120);
+            it.is("behind " + before + ": eight of each", behind(before, "eye !!!!!!!!((((((((d*2|g))))))))+c", 3), 1);
+            it.is("behind " + before + ": a NAME", behind(before, "eye d", 7), 7);
+            it.is("behind " + before + ": in ( )", behind(before, "eye (d+1)*2", 7), 16);
+            it.is("behind " + before + ": with !", behind(before, "eye !d-3", 0), -2);
         }
+    }
+
+    /** What a TEXT gives, or how it is refused, that comes behind one at fault. */
+    private static int behind(String faulty, String text, int d) {
+        SkinShow s = new SkinShow();
+        if (Due.text(s, 0, faulty) > -100) {
+            return 1000000;
+        }
+        int number = Due.text(s, 0, text);
+        boolean whole = number == 0 && s.of(0, 0) == EYE;
+        return whole ? s.gives(EYE, d, 0, 0, 0) : number;
     }
 
     private static void textFull() {
@@ -1007,6 +1023,7 @@ public final class TextsSentencesTest {
         SkinShow s = new SkinShow();
         Due.text(s, 1, "eye 1");
         it.is("not in force", s.why(EYE), NONE);
+        Twins.unchanged(it, "why by NONE", twin -> it.is("no TEXT of GROUP 5", twin.why(5), NONE));
     }
 
     private static void gives() {
@@ -1047,6 +1064,7 @@ public final class TextsSentencesTest {
         it.is("none in force", s.gives(2, 0, 0, 0, 0), NONE);
         Due.text(s, 0, "pull 2 0-9999");
         it.is("far below 0 is no refusal", s.gives(2, 0, 0, 0, 0), -9999);
+        Twins.unchanged(it, "gives by NONE", twin -> it.is("no TEXT of GROUP 5", twin.gives(5, 1, 2, 3, 4), NONE));
     }
 
     private static void habit() {
