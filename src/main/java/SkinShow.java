@@ -1206,9 +1206,8 @@ public final class SkinShow {
         private final int[] chosen = new int[MOST_CHOSEN];
         private int many = 0;
         private final boolean[] idle = new boolean[MOST_CHOSEN * PULLS];
-        // of each PLACE with a LIGHT and edges: twice the number of the search in which it was judged, and 1 if SEEN
-        private final int[] judged = new int[PLACES * LIGHTS * EDGES];
-        private int searches = 0;
+        // of each PLACE with a LIGHT: a bit for each number of edges with which it was judged, and above these one if SEEN
+        private final int[] judged = new int[PLACES * LIGHTS];
         private int least = 0;
         private int pulls = 0;
 
@@ -1238,7 +1237,6 @@ public final class SkinShow {
             skin.becomes(now);
             eye.face(grounds, ground);
             findIdle();
-            searches++;
             least = NOTHING_FOUND;
             pulls = 0;
         }
@@ -1249,6 +1247,7 @@ public final class SkinShow {
 
         private void seek(Texts texts, int text) {
             int all = allTries();
+            forgetJudged();
             for (int tried = 0; tried < all && least > 0; tried++) {
                 if (puts(tried)) {
                     weigh(tried, allSeen(texts, text));
@@ -1310,13 +1309,24 @@ public final class SkinShow {
             return all;
         }
 
+        private void forgetJudged() {
+            for (int at = 0; at < judged.length; at++) {
+                judged[at] = 0;
+            }
+        }
+
         /** 1 if a PLACE is SEEN; many PULLS lead to the same LIGHT, for which the TEXT is worked out once. */
         private int seenOnce(int place, Texts texts, int text) {
-            int at = (place * LIGHTS + eye.lights[place]) * EDGES + eye.edges[place];
-            if (judged[at] / 2 != searches) {
-                judged[at] = 2 * searches + (eye.sees(place, texts, text) ? 1 : 0);
+            int at = place * LIGHTS + eye.lights[place];
+            int known = 1 << eye.edges[place];
+            int seen = known << EDGES;
+            if ((judged[at] & known) == 0) {
+                judged[at] |= known;
+                if (eye.sees(place, texts, text)) {
+                    judged[at] |= seen;
+                }
             }
-            return judged[at] % 2;
+            return (judged[at] & seen) == 0 ? 0 : 1;
         }
     }
 

@@ -2,10 +2,12 @@ import java.lang.management.ManagementFactory;
 
 /**
  * All calls of one run live in one room of some 7.3 million fields and elements: an object and the 512 dearest calls on
- * it have to stay far below that. What is made is counted in bytes, of which most elements have 4.
+ * it have to stay far below that, and 512 objects within it. What is made is counted in bytes, of which most elements
+ * have 4.
  */
 public final class RoomTest {
     private static final long MOST_BYTES = 4 * 7_300_000L;
+    private static final int MOST_CALLS = 512;
 
     public static void main(String[] args) {
         // both once ahead, so that what the machine makes for itself is made
@@ -13,18 +15,33 @@ public final class RoomTest {
         run(true);
         long dear = made(true);
         long many = made(false);
-        System.out.println("RoomTest: " + dear + " bytes by dear calls, " + many + " by all of them");
-        if (dear > MOST_BYTES || many > MOST_BYTES) {
+        long objects = madeByObjects();
+        System.out.println("RoomTest: " + dear + " bytes by dear calls, " + many + " by all of them, " + objects
+            + " by " + MOST_CALLS + " objects");
+        if (dear > MOST_BYTES || many > MOST_BYTES || objects > MOST_BYTES) {
             System.exit(1);
         }
     }
 
     private static long made(boolean dear) {
-        com.sun.management.ThreadMXBean threads = (com.sun.management.ThreadMXBean) ManagementFactory.getThreadMXBean();
-        long id = Thread.currentThread().getId();
-        long before = threads.getThreadAllocatedBytes(id);
+        long before = madeTillNow();
         run(dear);
-        return threads.getThreadAllocatedBytes(id) - before;
+        return madeTillNow() - before;
+    }
+
+    /** The constructor is the one call that makes anything: as many objects as a run has calls fit as well. */
+    private static long madeByObjects() {
+        SkinShow[] all = new SkinShow[MOST_CALLS];
+        long before = madeTillNow();
+        for (int object = 0; object < MOST_CALLS; object++) {
+            all[object] = new SkinShow();
+        }
+        return madeTillNow() - before;
+    }
+
+    private static long madeTillNow() {
+        com.sun.management.ThreadMXBean threads = (com.sun.management.ThreadMXBean) ManagementFactory.getThreadMXBean();
+        return threads.getThreadAllocatedBytes(Thread.currentThread().getId());
     }
 
     private static int run(boolean dear) {
@@ -36,7 +53,7 @@ public final class RoomTest {
             s.nerve(nerve, 0, nerve % 6);
         }
         int sum = 0;
-        for (int call = 58; call < 512; call++) {
+        for (int call = 58; call < MOST_CALLS; call++) {
             sum += dear ? s.hide(call % 4, 543, call % 2) : one(s, call);
         }
         return sum;
