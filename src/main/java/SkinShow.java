@@ -1206,7 +1206,7 @@ public final class SkinShow {
         private final int[] chosen = new int[MOST_CHOSEN];
         private int many = 0;
         private final boolean[] idle = new boolean[MOST_CHOSEN * PULLS];
-        // of each PLACE with a LIGHT: a bit for each number of edges with which it was judged, and above these one if SEEN
+        // of each PLACE with a LIGHT: a bit for each number of edges that was judged, and above these one if SEEN
         private final int[] judged = new int[PLACES * LIGHTS];
         private int least = 0;
         private int pulls = 0;
